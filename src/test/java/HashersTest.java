@@ -143,9 +143,20 @@ public final class HashersTest {
     }
 
     private static void fillUpTo(TreeHashes x, int h, int n) {
-        while (x.told(h, 1) < n) {
-            x.fill(h, Math.min(5000, n - x.told(h, 1)), 3, 1);
+        for (int had = x.told(h, 1); had < n; had += 5000) {
+            x.fill(h, Math.min(5000, n - had), 3, 1);
         }
+    }
+
+    /** Hasher 0 takes in n bytes: which they are. */
+    private static byte[] filled(TreeHashes x, int n) {
+        byte[] all = new byte[n];
+        for (int had = 0; had < n; had += 5000) {
+            int piece = Math.min(5000, n - had);
+            System.arraycopy(Due.steps(piece, had, 7), 0, all, had, piece);
+            due.is("fill of " + piece, x.fill(0, piece, had, 7), had + piece);
+        }
+        return all;
     }
 
     private static void promise7TakeUpToTheLimit() {
@@ -209,12 +220,7 @@ public final class HashersTest {
         };
         for (int n : lengths) {
             TreeHashes x = new TreeHashes();
-            byte[] all = new byte[n];
-            for (int had = 0; had < n; ) {
-                int piece = Math.min(5000, n - had);
-                System.arraycopy(Due.steps(piece, had, 7), 0, all, had, piece);
-                had = x.fill(0, piece, had, 7);
-            }
+            byte[] all = filled(x, n);
             outputIs("output of " + n, x, 0, PlainTree.output(all, PlainTree.start(), 0, 200, 0));
         }
     }
@@ -279,7 +285,7 @@ public final class HashersTest {
         Due.put(x, 0, key);
         x.begin(0, 1, 0);
         x.fill(0, 3500, 0, 1);
-        x.fill(3, 4500, 5, 5);
+        x.fill(3, 4700, 5, 5);
         due.is("copy(0, 3)", x.copy(0, 3), 3500);
         int[] told = {1, 3500, 3, 2, 428};
         for (int what = 0; what <= 4; what++) {
@@ -330,13 +336,7 @@ public final class HashersTest {
         // 31 closed chunks are the highest stack that 40000 bytes can make.
         for (int n : new int[] {1024, 1025, 2049, 3073, 4097, 7169, 15361, 31745, 32769, 40000}) {
             TreeHashes x = new TreeHashes();
-            byte[] all = new byte[n];
-            for (int had = 0; had < n; ) {
-                int piece = Math.min(5000, n - had);
-                System.arraycopy(Due.steps(piece, had, 3), 0, all, had, piece);
-                had = x.fill(0, piece, had, 3);
-            }
-            chainsAre(x, all);
+            chainsAre(x, filled(x, n));
         }
     }
 

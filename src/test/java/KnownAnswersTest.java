@@ -63,9 +63,8 @@ public final class KnownAnswersTest {
     /** The published inputs count 0 .. 250 again and again. */
     private static void pattern(int n, String want) {
         TreeHashes x = new TreeHashes();
-        for (int taken = 0; taken < n; ) {
-            int piece = Math.min(251, n - taken);
-            taken = x.fill(3, piece, 0, 1);
+        for (int taken = 0; taken < n; taken += 251) {
+            x.fill(3, Math.min(251, n - taken), 0, 1);
         }
         x.output(3, 7, 32, 0);
         due.is("hash of the pattern of " + n, Due.hex(x, 7), want);

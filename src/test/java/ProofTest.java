@@ -23,9 +23,8 @@ public final class ProofTest {
 
     private static TreeHashes ofFile(byte[] file) {
         TreeHashes x = new TreeHashes();
-        for (int had = 0; had < file.length; ) {
-            int piece = Math.min(5000, file.length - had);
-            had = x.grow(piece, had * 7, 7);
+        for (int had = 0; had < file.length; had += 5000) {
+            x.grow(Math.min(5000, file.length - had), had * 7, 7);
         }
         return x;
     }
