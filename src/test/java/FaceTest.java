@@ -1,9 +1,13 @@
+import java.io.IOException;
 import java.lang.reflect.Constructor;
 import java.lang.reflect.Field;
 import java.lang.reflect.Method;
 import java.lang.reflect.Modifier;
+import java.nio.file.Files;
+import java.nio.file.Path;
 import java.util.Arrays;
 import java.util.HashSet;
+import java.util.List;
 import java.util.Set;
 import java.util.TreeSet;
 
@@ -19,7 +23,8 @@ public final class FaceTest {
         "int check(int, int, int)"
     };
 
-    public static void main(String[] args) {
+    public static void main(String[] args) throws IOException {
+        wordForWord();
         due.is("the class", Modifier.toString(TreeHashes.class.getModifiers()), "public final");
         constants();
         methods();
@@ -27,6 +32,22 @@ public final class FaceTest {
         due.is("constructors", Arrays.toString(all), "[public TreeHashes()]");
         classesInside();
         due.end();
+    }
+
+    /** Each line of the document's face, the names of the parameters too, is a line of the class. */
+    private static void wordForWord() throws IOException {
+        List<String> document = Files.readAllLines(Path.of("../shared/DOC.md"));
+        List<String> program = Files.readAllLines(Path.of("src/main/java/TreeHashes.java"));
+        int line = document.indexOf("## The public face");
+        line = line + document.subList(line, document.size()).indexOf("```java") + 1;
+        int seen = 0;
+        for (; !document.get(line).equals("```"); line++) {
+            String face = document.get(line);
+            String written = face.endsWith(");") ? face.replace(");", ") {") : face;
+            due.is("the program has '" + written + "'", program.contains(written) ? 1 : 0, 1);
+            seen++;
+        }
+        due.is("lines of the document's face", seen, 2 + 3 + 1 + FACE.length);
     }
 
     private static void constants() {

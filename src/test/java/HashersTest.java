@@ -7,6 +7,7 @@ public final class HashersTest {
     private static final int[] NO_REGISTERS = {-1, 8, 9, Integer.MIN_VALUE, Integer.MAX_VALUE};
 
     public static void main(String[] args) {
+        severalHashersBitByBit();
         promise6BeginKeyed();
         promise6BeginContext();
         promise6BeginAnew();
@@ -31,6 +32,34 @@ public final class HashersTest {
     private static void outputIs(String what, TreeHashes x, int h, byte[] want) {
         due.is("output: " + what, x.output(h, 7, want.length, 0), want.length);
         due.is(what, Due.hex(x, 7), Due.hex(want));
+    }
+
+    /** "taken in bit by bit by several hashers": in turns, and with all else that hashes between them. */
+    private static void severalHashersBitByBit() {
+        byte[] key = Due.steps(32, 1, 9);
+        int[][] keys = {PlainTree.start(), PlainTree.words(key), PlainTree.contextKey(key), PlainTree.start()};
+        int[] bases = {0, 16, 64, 0};
+        byte[][] all = new byte[4][0];
+        TreeHashes x = new TreeHashes();
+        Due.put(x, 0, key);
+        x.grow(3000, 5, 5);
+        x.begin(1, 1, 0);
+        x.begin(2, 2, 0);
+        for (int turn = 0; turn < 40; turn++) {
+            int h = turn % 4;
+            int n = 7 + 37 * turn % 211;
+            int had = all[h].length;
+            all[h] = Arrays.copyOf(all[h], had + n);
+            System.arraycopy(Due.steps(n, turn, h), 0, all[h], had, n);
+            due.is("in turns: fill of hasher " + h, x.fill(h, n, turn, h), had + n);
+            x.prove(turn % 3);
+            x.root(1);
+            due.is("in turns: check", x.check(1, 3000, turn % 3), 1);
+            x.output((h + 1) % 4, 1, 70, turn);
+        }
+        for (int h = 0; h < 4; h++) {
+            outputIs("in turns: hasher " + h, x, h, PlainTree.output(all[h], keys[h], bases[h], 40, 0));
+        }
     }
 
     private static void promise6BeginKeyed() {
