@@ -1,5 +1,7 @@
 import com.sun.management.ThreadMXBean;
+import java.io.IOException;
 import java.lang.management.ManagementFactory;
+import java.nio.file.Path;
 
 /**
  * All calls of a run share one room, so the class says that no call makes an object: 512 of the dearest
@@ -12,7 +14,13 @@ public final class RoomTest {
     private static final long MEASURING = 256;
     private static final long MOST_OF_AN_OBJECT = 60000;
 
-    public static void main(String[] args) {
+    /** Measures in a machine that only interprets: a compiling one may leave out objects that the class makes. */
+    public static void main(String[] args) throws IOException, InterruptedException {
+        if (args.length == 0) {
+            String java = Path.of(System.getProperty("java.home"), "bin", "java").toString();
+            String here = System.getProperty("java.class.path");
+            System.exit(new ProcessBuilder(java, "-Xint", "-cp", here, "RoomTest", "measure").inheritIO().start().waitFor());
+        }
         // The first time, the machine loads what it needs for the calls.
         aRun(new TreeHashes());
         TreeHashes x = new TreeHashes();
