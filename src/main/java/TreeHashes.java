@@ -287,7 +287,7 @@ public final class TreeHashes {
             if (way.otherFirst[level] < c) {
                 worker.mix.joinBehind(words, 0, Mix.START, PLAIN_BASE);
             } else {
-                worker.mix.joinBefore(words, 0, Mix.START, PLAIN_BASE);
+                worker.mix.joinBefore(words, Mix.START, PLAIN_BASE);
             }
         }
     }
@@ -457,7 +457,7 @@ public final class TreeHashes {
 
         /** A full block waits for the byte behind it: only then is it known not to be the last one. */
         void absorbByte(int b) {
-            if (inBlock == BLOCK) {
+            if (inBlock >= BLOCK) {
                 if (blocks == LAST_BLOCK) {
                     closeChunk();
                 } else {
@@ -563,10 +563,10 @@ public final class TreeHashes {
         private int[] nextW = new int[BLOCK_WORDS];
 
         void prepare(int[] newChain, int[] newBlock, long newCount, int newLength, int newFlags) {
-            for (int k = 0; k < CHAIN_WORDS; k++) {
+            for (int k = 0; k < chain.length && k < newChain.length; k++) {
                 chain[k] = newChain[k];
             }
-            for (int k = 0; k < BLOCK_WORDS; k++) {
+            for (int k = 0; k < block.length && k < newBlock.length; k++) {
                 block[k] = newBlock[k];
             }
             count = newCount;
@@ -577,19 +577,23 @@ public final class TreeHashes {
         /** Prepares the parent of a chain on the left and, on the right, the one that came of the last run. */
         void joinBehind(int[] left, int from, int[] key, int base) {
             for (int k = 0; k < CHAIN_WORDS; k++) {
-                block[k] = left[from + k];
+                block[k] = wordOf(left, from + k);
                 block[CHAIN_WORDS + k] = v[k];
             }
             prepare(key, block, 0, PARENT_LENGTH, base + PARENT_FLAG);
         }
 
         /** Prepares the parent of the chain that came of the last run and, on the right, another one. */
-        void joinBefore(int[] right, int from, int[] key, int base) {
+        void joinBefore(int[] right, int[] key, int base) {
             for (int k = 0; k < CHAIN_WORDS; k++) {
                 block[k] = v[k];
-                block[CHAIN_WORDS + k] = right[from + k];
+                block[CHAIN_WORDS + k] = wordOf(right, k);
             }
             prepare(key, block, 0, PARENT_LENGTH, base + PARENT_FLAG);
+        }
+
+        private static int wordOf(int[] words, int i) {
+            return i >= 0 && i < words.length ? words[i] : 0;
         }
 
         void makeRoot() {
@@ -598,7 +602,10 @@ public final class TreeHashes {
 
         void writeChain(int[] to, int from) {
             for (int k = 0; k < CHAIN_WORDS; k++) {
-                to[from + k] = v[k];
+                int i = from + k;
+                if (i >= 0 && i < to.length) {
+                    to[i] = v[k];
+                }
             }
         }
 
