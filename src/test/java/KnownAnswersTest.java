@@ -1,9 +1,9 @@
 import java.nio.charset.StandardCharsets;
 
 /**
- * Values of the hash that the document describes from outside of this project, so that no misreading
- * is shared. All but those of 40000 bytes are published as its test vectors; the reference program
- * b3sum 1.2.0 gave them all.
+ * Values from outside of this project for the hash that the document describes, so that no misreading
+ * is shared: the program b3sum 1.2.0 gave them all, for inputs, a key and a context made as those of the
+ * hash's published test vectors are.
  */
 public final class KnownAnswersTest {
     private static final Due due = new Due("KnownAnswersTest");
@@ -182,7 +182,7 @@ public final class KnownAnswersTest {
         due.is("hash of '" + text + "'", Due.hex(x, 1), want);
     }
 
-    /** The published inputs count 0 .. 250 again and again. */
+    /** The inputs count 0 .. 250 again and again. */
     private static TreeHashes hashing(int n, int mode) {
         TreeHashes x = new TreeHashes();
         Due.put(x, 5, mode == 1 ? KEY : CONTEXT);
